@@ -71,6 +71,11 @@ public final class BlameTest {
         check.due("as was known", house.blame(0, 2), 100);
         check.due("as was known first", house.blame(0, 1), -3);
         check.due("as nothing was known", house.blame(0, 0), -1);
+        LanternHouse other = travelled();
+        other.look(0, 57, false);
+        other.look(0, 57, true);
+        other.look(0, 57, false);
+        check.due("of two broken ones of an hour the first told", other.blame(0, 3), -3);
     }
 
     private static void waysAreThoseOfTheMaking(Check check) {

@@ -69,45 +69,49 @@ public final class RandomRunsTest {
         return choices[below(choices.length)];
     }
 
-    private String sum(int depth) {
-        StringBuilder sum = new StringBuilder(unit(depth));
+    /** An E with ( up to so deep. */
+    private String sum(int deep) {
+        StringBuilder sum = new StringBuilder(unit(deep));
         for (int i = below(3); i > 0; i--) {
-            sum.append(pick("+", "-", "*", " * ")).append(unit(depth));
+            sum.append(pick("+", "-", "*", " * ")).append(unit(deep));
         }
         return sum.toString();
     }
 
-    private String unit(int depth) {
-        if (depth < 8 && oneIn(depth > 2 ? 2 : 3)) {
-            return "(" + sum(depth + 1) + ")";
+    private String unit(int deep) {
+        if (deep > 0 && oneIn(3)) {
+            return "(" + sum(deep - 1) + ")";
         }
         return oneIn(2) ? String.valueOf(below(oneIn(3) ? 10000 : 12))
                 : pick("shown", "missed", "instead", "minutes", "gas", "worth");
     }
 
+    private String nest(int deep) {
+        return deep == 0 ? unit(0) : (oneIn(2) ? unit(0) + pick("+", "-", "*") : "") + "(" + nest(deep - 1) + ")";
+    }
+
     private String cue(boolean odd) {
-        StringBuilder cue = new StringBuilder(oneIn(3) ? "must " : "may ");
-        cue.append(kind(odd));
-        for (int i = odd && oneIn(6) ? 3 : below(3); i > 0; i--) {
-            cue.append(" or ").append(kind(odd));
+        StringBuilder cue = new StringBuilder(oneIn(2) ? "must " : "may ");
+        int kind = below(7);
+        cue.append(kind);
+        for (int i = odd && oneIn(20) ? 3 : below(3); i > 0; i--) {
+            kind = odd && oneIn(20) ? below(60) : (kind + 1 + below(2)) % 7;
+            cue.append(" or ").append(kind);
         }
-        int minutes = odd && oneIn(12) ? below(40) : 1 + below(12);
+        int minutes = odd && oneIn(40) ? below(40) : 1 + below(12);
         cue.append(" for ").append(minutes);
         if (oneIn(2)) {
-            cue.append(" fade ").append(odd && oneIn(12) ? below(20) : below(minutes + 1));
+            cue.append(" fade ").append(odd && oneIn(30) ? below(20) : below(minutes + 1));
         }
         return cue.append(pick(";", "; ", " ;\n")).toString();
     }
 
-    private String kind(boolean odd) {
-        return String.valueOf(odd && oneIn(20) ? below(60) : oneIn(12) ? below(30) : below(7));
-    }
-
-    private String hire() {
-        StringBuilder hire = new StringBuilder("hire ").append(sum(0));
+    private String hire(boolean odd) {
+        StringBuilder hire = new StringBuilder("hire ");
+        hire.append(odd && oneIn(5) ? nest(4 + below(4)) : sum(3));
         if (!oneIn(3)) {
             String joint = " if ";
-            for (int i = 1 + below(3); i > 0; i--) {
+            for (int i = 1 + below(2); i > 0; i--) {
                 hire.append(joint).append(sum(1)).append(pick("==", " != ", "<", "<=", "<=")).append(sum(1));
                 joint = " and ";
             }
@@ -117,14 +121,14 @@ public final class RandomRunsTest {
 
     private String text(boolean odd) {
         StringBuilder text = new StringBuilder();
-        for (int i = odd && oneIn(8) ? 7 : below(6); i >= 0; i--) {
-            text.append("lecture ").append(odd && oneIn(4) ? pick("a", "b", "abcdefgh", "abcdefghi") : "x" + (char) ('a' + i));
+        for (int i = odd && oneIn(12) ? 6 : below(3); i >= 0; i--) {
+            text.append("lecture ").append(odd && oneIn(10) ? pick("a", "abcdefgh", "abcdefghi") : "x" + (char) ('a' + i));
             text.append(";");
-            for (int cues = odd && oneIn(8) ? 9 : below(9); cues > 0; cues--) {
+            for (int cues = odd && oneIn(16) ? 9 : below(6); cues > 0; cues--) {
                 text.append(cue(odd));
             }
-            for (int hires = odd && oneIn(8) ? 5 : below(4); hires > 0; hires--) {
-                text.append(hire());
+            for (int hires = odd && oneIn(16) ? 5 : below(4); hires > 0; hires--) {
+                text.append(hire(odd));
             }
             text.append("end").append(pick(" ", "\n", "\t", "\r"));
         }
@@ -209,7 +213,7 @@ public final class RandomRunsTest {
     }
 
     private void addPlate() {
-        int kind = oneIn(8) ? around(29) : below(7);
+        int kind = oneIn(12) ? around(29) : below(7);
         same("plate(" + kind + ")", house.plate(kind), plain.plate(kind));
     }
 
@@ -224,7 +228,7 @@ public final class RandomRunsTest {
 
     private void call() {
         switch (below(22)) {
-            case 0: call0(); break;
+            case 0: callRare(); break;
             case 1: case 2: tellFact(); break;
             case 3: case 4: addShow(); break;
             case 5: askWay(); break;
@@ -241,8 +245,8 @@ public final class RandomRunsTest {
         }
     }
 
-    private void call0() {
-        switch (below(8)) {
+    private void callRare() {
+        switch (below(12)) {
             case 0: same("hall()", house.hall(), plain.hall()); break;
             case 1: addTrain(); break;
             case 2: addPlate(); break;
@@ -255,11 +259,12 @@ public final class RandomRunsTest {
                 same("back(" + n + ")", house.back(n), plain.back(n));
                 break;
             case 5: same("place()", house.place(), plain.place()); break;
-            default:
+            case 6:
                 if (plain.count(9) == 0) {
-                    readBoth(oneIn(4) ? spoilt(text(true)) : text(false));
+                    readBoth(oneIn(2) ? spoilt(text(true)) : text(false));
                 }
                 break;
+            default: break;
         }
     }
 

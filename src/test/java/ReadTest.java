@@ -10,6 +10,7 @@ public final class ReadTest {
         syntaxOfHires(check);
         roomForParts(check);
         roomForTokens(check);
+        roomForAnyToken(check);
         twice(check);
         wrong(check);
         firstFaultIsTold(check);
@@ -173,6 +174,8 @@ public final class ReadTest {
         fault(check, 2, HEAD + "hire ((((((^(1)))))));end");
         fault(check, 2, HEAD + "hire 1+(2*(3+(4*(5+(6*(7+^(8)))))));end");
         fault(check, 2, HEAD + "hire 1 if (1) < ((((((^(");
+        fault(check, 2, HEAD + "hire 1 if ((((((^(1))))))) < 1;end");
+        fault(check, 2, HEAD + "hire 1 if 1 < 2 and ((((((^(1))))))) < 1;end");
         fault(check, 1, HEAD + "hire ((((((1^(");
         fits(check, 1, HEAD + "hire ((((((1))))))*(1)*((((((1)))))) if ((((((1)))))) < ((((((2))))));end");
         // what is of another lecture does not count
@@ -201,6 +204,23 @@ public final class ReadTest {
         fault(check, 2, odd + Check.times(297, "+1") + "+^(((");
     }
 
+    /** Each TOKEN of a lecture in turn is the 601st, by sums ahead of it that are as long as that asks for. */
+    private static void roomForAnyToken(Check check) {
+        String tail = "lecture b ; must 1 or 2 or 3 for 4 fade 4 ; may 5 for 6 ; "
+                + "hire ( 1 + shown ) * 2 - 3 if 4 == 5 and ( 6 ) <= 7 and 8 != 9 and 1 < 2 ; hire 1 ; end";
+        String[] tokens = tail.split(" ");
+        int place = 0;
+        for (int i = 0; i < tokens.length; i++) {
+            int ahead = 600 - i;
+            boolean isOdd = ahead % 2 == 1;
+            String head = HEAD + (isOdd ? "" : "hire 1;") + "hire 1"
+                    + Check.times((ahead - (isOdd ? 7 : 10)) / 2, "+1") + ";end ";
+            fault(check, 2, head + tail.substring(0, place) + "^" + tail.substring(place));
+            fault(check, 1, head + tail.substring(0, place) + "^?");
+            place += tokens[i].length() + 1;
+        }
+    }
+
     private static void twice(Check check) {
         fault(check, 3, "lecture a;end lecture ^a;end");
         fault(check, 3, "lecture a;end lecture b;end lecture ^a;end");
@@ -208,6 +228,8 @@ public final class ReadTest {
         fits(check, 2, "lecture abcdefgh;end lecture abcdefgi;end");
         fits(check, 2, "lecture abcdefgh;end lecture bbcdefgh;end");
         fits(check, 3, "lecture a;end lecture aa;end lecture aaa;end");
+        fits(check, 4, "lecture b;end lecture bb;end lecture bbb;end lecture z;end");
+        fits(check, 3, "lecture az;end lecture ba;end lecture b;end");
         fault(check, 3, HEAD + "must 1 or ^1 for 1;end");
         fault(check, 3, HEAD + "must 1 or 2 or ^2 for 1;end");
         fault(check, 3, HEAD + "must 1 or 2 or ^1 for 1;end");

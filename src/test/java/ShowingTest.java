@@ -129,6 +129,12 @@ public final class ShowingTest {
         reckons(check, "9999*9999*9999", 9999 * 9999 * 9999);
         reckons(check, "0-9999*9999*99-9999*9999", -9999 * 9999 * 99 - 9999 * 9999);
         reckons(check, "worth*worth*worth*worth", (int) 1000000000000L);
+        String deep = "1+2*(3-4*(5+6*(7-8*(9+1*(2-3*(4+5*6))))))";
+        int deepDue = 1 + 2 * (3 - 4 * (5 + 6 * (7 - 8 * (9 + 1 * (2 - 3 * (4 + 5 * 6))))));
+        reckons(check, deep, deepDue);
+        reckons(check, deep + " if " + deep + " == " + deep, deepDue);
+        holds(check, deep + " == " + deep, true);
+        holds(check, deep + " < " + deep + " and 1 == 1", false);
         holds(check, "1 == 1", true);
         holds(check, "1 == 2", false);
         holds(check, "1 != 1", false);
