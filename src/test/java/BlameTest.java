@@ -3,6 +3,7 @@ public final class BlameTest {
     public static void main(String[] args) {
         Check check = new Check();
         blame(check);
+        firstAndLastHours(check);
         looksOfOneHour(check);
         waysAreThoseOfTheMaking(check);
         wrongBlames(check);
@@ -41,6 +42,34 @@ public final class BlameTest {
             }
             house.look(0, row[1], false);
             check.due("blame from " + row[0] + " to " + row[1], house.blame(0, house.count(3)), row[2]);
+        }
+    }
+
+    /** The first HOUR at which a way can end is 1, the last SHOW is at 668; the 8th SHOW is 7, the way to it 107. */
+    private static void firstAndLastHours(Check check) {
+        int[][] rows = {
+            // the whole look's HOUR (-1: none), the broken one's, due
+            {-1, 0, -2}, {-1, 1, 107}, {0, 1, 107}, {0, 0, -2}, {1, 1, -2}, {1, 19, -2}, {1, 20, 7}, {19, 20, 7}, {20, 20, -2},
+            {20, 644, -2}, {20, 645, -2}, {20, 667, -2}, {20, 668, 0}, {667, 668, 0}, {668, 668, -2}, {668, 700, -2},
+            {667, 700, 0}, {699, 700, -2}, {700, 700, -2}, {-1, 700, -3}, {0, 20, -3}, {19, 668, -3},
+        };
+        for (int[] row : rows) {
+            LanternHouse house = Check.houseWith("lecture a;must 1 for 1;end lecture b;end");
+            house.hall();
+            house.plate(1);
+            house.train(0, 1, 0, 1);
+            house.show(27, 1, 0, 0, 1);
+            for (int i = 1; i < 7; i++) {
+                house.show(i, 0, 1, 0, 1);
+            }
+            house.show(0, 1, 0, 0, 1);
+            check.due("make", house.make(0), 8);
+            if (row[0] >= 0) {
+                house.look(0, row[0], true);
+            }
+            house.look(0, row[1], false);
+            check.due("blame behind " + row[0] + " up to " + row[1], house.blame(0, house.count(3)), row[2]);
+            check.due("as nothing is known", house.blame(0, 0), -1);
         }
     }
 

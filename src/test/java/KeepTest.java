@@ -17,6 +17,9 @@ public final class KeepTest {
         firstByWhoIsIn(check);
         mending(check);
         mendingThenAsMaking(check);
+        mendingStaysWithWhatIsWorthNothing(check);
+        noKindsButThoseOfTheCue(check);
+        madeAnewWithoutAStandIn(check);
         wrongMakings(check);
         check.end();
     }
@@ -335,6 +338,80 @@ public final class KeepTest {
         check.due("missed of the other", other.count(7), 1);
         check.due("make changes it", other.make(0), 10);
         check.due("to the other one", other.told(1, 5), 1);
+    }
+
+    private static void mendingStaysWithWhatIsWorthNothing(Check check) {
+        LanternHouse house = Check.houseWith("lecture a;may 1 or 2 for 1;end lecture b;must 3 for 1;end");
+        house.plate(1);
+        house.plate(2);
+        house.show(0, 0, 0, 0, 0);
+        check.due("make", house.make(0), 0);
+        check.due("it is in", house.told(0, 5), 1);
+        house.look(0, 18, false);
+        house.look(1, 18, false);
+        check.due("mend with a stand-in", house.mend(1), 0);
+        check.due("it is in still", house.told(0, 5), 1);
+        check.due("instead", house.count(8), 1);
+        check.due("mend with a cue that is missed", house.mend(2), 0);
+        check.due("and in still", house.told(0, 5), 1);
+        check.due("missed", house.count(7), 1);
+        check.due("making leaves it out", house.make(2), 0);
+        check.due("it is out", house.told(0, 5), 0);
+        check.due("mending does not bring it back", house.mend(0), 0);
+        check.due("it is out still", house.told(0, 5), 0);
+        check.due("making does", house.make(0), 0);
+        check.due("it is in again", house.told(0, 5), 1);
+    }
+
+    /** PLATES of KINDS that a CUE does not tell, 0 and those of its neighbours among them, do not stand in. */
+    private static void noKindsButThoseOfTheCue(Check check) {
+        LanternHouse house = Check.houseWith("lecture a;may 3 for 1;may 3 or 4 for 1;may 3 or 4 or 5 for 1;may 6 for 1;end "
+                + "lecture b;may 7 for 1;end lecture c;may 9 or 8 or 10 for 1;may 11 for 1;end");
+        for (int kind : new int[] {0, 1, 2, 7, 0, 12}) {
+            house.plate(kind);
+        }
+        house.show(0, 0, 0, 9, 1);
+        house.show(1, 0, 2, 9, 1);
+        check.due("make", house.make(0), 2);
+        check.due("missed", house.count(7), 6);
+        house.plate(6);
+        house.plate(11);
+        check.due("make with two plates more", house.make(0), 2);
+        check.due("missed then", house.count(7), 4);
+        check.due("instead then", house.count(8), 0);
+        for (int i = 0; i < 3; i++) {
+            check.due("cue " + i, house.cue(0, i, 0), -1);
+        }
+        check.due("cue 3", house.cue(0, 3, 0), 6);
+        check.due("cue 0 of the other", house.cue(1, 0, 0), -1);
+        check.due("cue 1 of the other", house.cue(1, 1, 0), 7);
+    }
+
+    private static void madeAnewWithoutAStandIn(Check check) {
+        LanternHouse house = Check.houseWith("lecture a;may 1 or 2 for 1;end");
+        house.plate(2);
+        house.show(0, 0, 0, 5, 1);
+        house.look(0, 18, false);
+        for (int i = 0; i < 4; i++) {
+            house.make(0);
+            check.due("instead", house.cue(0, 0, 4), 1);
+            check.due("count of them", house.count(8), 1);
+            check.due("its begin", house.cue(0, 0, 2), 0);
+            // what is tried with a stand-in leaves nothing behind either
+            check.due("can", house.can(1, 0), 1);
+            if (i % 2 == 0) {
+                house.make(1);
+            } else {
+                house.mend(1);
+            }
+            check.due("missed", house.cue(0, 0, 0), -1);
+            check.due("its kind", house.cue(0, 0, 1), -1);
+            check.due("its begin then", house.cue(0, 0, 2), -1);
+            check.due("not shown", house.cue(0, 0, 3), 0);
+            check.due("not instead", house.cue(0, 0, 4), 0);
+            check.due("count of none", house.count(8), 0);
+            check.due("count of the missed", house.count(7), 1);
+        }
     }
 
     private static void wrongMakings(Check check) {

@@ -16,6 +16,8 @@ public final class ReadTest {
         firstFaultIsTold(check);
         faultChangesNothing(check);
         newTextEndsShows(check);
+        nothingIsLeftOfATextAhead(check);
+        namesAreApart(check);
         check.end();
     }
 
@@ -304,5 +306,60 @@ public final class ReadTest {
         check.due("a third text", Check.read(house, "lecture c;must 4 for 2;end"), 0);
         house.show(0, 0, 0, 5, 6);
         check.due("make by the third", house.make(0), 0);
+    }
+
+    /** Reads a text of one lecture, and goes through a SHOW of it with PLATES of KINDS 0 .. 2. */
+    private static void showsOf(Check check, LanternHouse house, String text, int shown, int gas, int hire) {
+        check.due("read of " + text, Check.read(house, text), 0);
+        house.show(0, 0, 0, 500, 10);
+        check.due("make of " + text, house.make(0), 10);
+        check.due("shown of " + text, house.showing(0, 0), shown);
+        check.due("gas of " + text, house.showing(0, 4), gas);
+        check.due("hire of " + text, house.showing(0, 5), hire);
+        check.due("a cue behind the last of " + text, house.cue(0, shown, 3), -1);
+    }
+
+    /** What texts ahead told, with a FAULT or without, is not in one that is read later. */
+    private static void nothingIsLeftOfATextAhead(Check check) {
+        String[] ahead = {
+            HEAD + "must 1 for 4 fade 3;must 2 for 5 fade 5;hire 1+2+3;hire 9;end",
+            HEAD + "must 1 or 2 for 4 fade 3;may 0 for 1;hire 5*(6+(7-8));hire 3;hire 4;end ?",
+            HEAD + "must 1 for 4 fade 3;must 2 for 5 fade 5;hire 1+2*(3-4*(5",
+            HEAD + "must 1 for 4 fade 3;must 2 for 5 fade 5;hire 1 if 2*(3",
+            HEAD + "must 1 or 1 for 4 fade 3;hire 1;hire 2 if 1<2 and 3<4;end",
+            HEAD + "hire 1" + Check.times(280, "+1") + ";end",
+            HEAD + "hire 1" + Check.times(280, "*1") + ";",
+        };
+        for (String first : ahead) {
+            for (String second : ahead) {
+                LanternHouse house = new LanternHouse();
+                for (int kind = 0; kind < 3; kind++) {
+                    house.plate(kind);
+                }
+                String[] texts = {HEAD + "end", HEAD + "must 2 for 3;end", HEAD + "hire 7 if 1<2;end",
+                    HEAD + "hire 7 if 2<1;hire 8-1*2;end"};
+                int[][] due = {{0, 0, 0}, {1, 3, 0}, {0, 0, 7}, {0, 0, 6}};
+                for (int i = 0; i < texts.length; i++) {
+                    // twice, so that wherever texts are held there was one ahead
+                    Check.read(house, first);
+                    Check.read(house, second);
+                    showsOf(check, house, texts[i], due[i][0], due[i][1], due[i][2]);
+                }
+            }
+        }
+    }
+
+    private static void namesAreApart(Check check) {
+        String[] names = {"a", "b", "z", "aa", "ab", "ba", "bb", "az", "za", "zz", "aaa", "aab", "aba", "baa", "abc", "cba", "acb",
+            "aaaaaaaa", "aaaaaaab", "baaaaaaa", "abaaaaaa", "zzzzzzzz", "zzzzzzz", "azzzzzzz", "zzzzzzza"};
+        for (String one : names) {
+            for (String other : names) {
+                boolean isTwice = one.equals(other);
+                LanternHouse house = new LanternHouse();
+                String text = "lecture " + one + ";end lecture " + other + ";end";
+                check.due("read of " + text, Check.read(house, text), isTwice ? 3 : 0);
+                check.due("place of " + text, house.place(), isTwice ? 21 + one.length() : -1);
+            }
+        }
     }
 }

@@ -8,6 +8,9 @@ public final class ShowingTest {
         hires(check);
         vars(check);
         reckoning(check);
+        wrapping(check);
+        gasAtItsEdges(check);
+        showingsAreApart(check);
         wrongOnes(check);
         check.end();
     }
@@ -150,6 +153,82 @@ public final class ShowingTest {
         holds(check, "1 + 1 == 2 and 2 * 3 == 6 and 3 - 4 < 0", true);
         holds(check, "1 + 1 == 2 and 2 * 3 == 7 and 3 - 4 < 0", false);
         holds(check, "1 + 1 == 3 and 2 * 3 == 6", false);
+    }
+
+    /** "Ints of 32 bits that wrap" */
+    private static void wrapping(Check check) {
+        String least = "(8192*8*(8192*4))";
+        String most = "(" + least + "-1)";
+        reckons(check, least, Integer.MIN_VALUE);
+        reckons(check, most, Integer.MAX_VALUE);
+        reckons(check, most + "+1", Integer.MIN_VALUE);
+        reckons(check, most + "+" + most, -2);
+        reckons(check, least + "+" + least, 0);
+        reckons(check, least + "-" + most, 1);
+        reckons(check, most + "-" + least, -1);
+        reckons(check, "0-" + least, Integer.MIN_VALUE);
+        reckons(check, "0-" + most + "-1", Integer.MIN_VALUE);
+        reckons(check, "0-" + most + "-2", Integer.MAX_VALUE);
+        reckons(check, least + "*(0-1)", Integer.MIN_VALUE);
+        reckons(check, least + "*2", 0);
+        reckons(check, most + "*2", -2);
+        reckons(check, most + "*" + most, 1);
+        reckons(check, "8192*8*(8192*8)", 0);
+        reckons(check, "(9999*4+6344)*(9999*4+6344)", 46340 * 46340);
+        reckons(check, "(9999*4+6345)*(9999*4+6345)", -2147479015);
+        reckons(check, "9999*9999*21", 2099580021);
+        reckons(check, "9999*9999*22", -2095407274);
+        holds(check, least + " < " + most, true);
+        holds(check, most + " < " + least, false);
+        holds(check, least + " < 1", true);
+        holds(check, least + " <= 1", true);
+        holds(check, "1 < " + least, false);
+        holds(check, "1 <= " + least, false);
+        holds(check, least + " <= " + least, true);
+        holds(check, most + " <= " + most, true);
+        holds(check, most + " + 1 < " + most, true);
+        holds(check, most + " + 1 == " + least, true);
+        holds(check, least + " - 1 == " + most, true);
+        holds(check, least + " - 1 != " + most, false);
+        holds(check, "0 - 1 < 0", true);
+        holds(check, "0 - 1 < 0 - 1", false);
+        holds(check, "0 - 1 <= 0 - 2", false);
+    }
+
+    /** "A CUE is shown if GAS is there for all of its MINUTES; the first one for which it is not, and all behind, are DARK" */
+    private static void gasAtItsEdges(Check check) {
+        int[] burnt = {1, 3, 6, 7, 9};
+        String text = "lecture a;must 1 for 1;must 1 for 1 fade 1;must 1 for 2 fade 1;must 1 for 1 fade 0;must 1 for 2;end";
+        int[] minutes = {0, 1, 2, 4, 5, 7};
+        for (int gas = 0; gas <= 10; gas++) {
+            LanternHouse house = shown(text, gas, 1, 1, 1, 1, 1, 1);
+            int count = 0;
+            while (count < 5 && burnt[count] <= gas) {
+                count++;
+            }
+            whole(check, house, count, 5 - count, 0, minutes[count], count == 0 ? 0 : burnt[count - 1], 0,
+                    count == 5 ? -1 : count, -1);
+            for (int i = 0; i < 5; i++) {
+                row(check, house, i, i, 1, minutes[i], i < count ? 1 : 0, 0);
+            }
+        }
+    }
+
+    /** What is asked of one SHOW is not in what is answered of another one. */
+    private static void showingsAreApart(Check check) {
+        LanternHouse house = Check.houseWith("lecture a;must 1 for 2;must 2 or 1 for 3;hire 5 if shown==2;end lecture b;end");
+        house.plate(1);
+        house.plate(1);
+        house.show(0, 0, 0, 5, 1);
+        house.show(1, 0, 0, 4, 1);
+        house.show(2, 0, 1, 5, 1);
+        house.make(0);
+        int[][] due = {{2, 0, 1, 5, 5, 5, -1, 0}, {1, 1, 0, 2, 2, 0, 1, -1}, {0, 0, 0, 0, 0, 0, -1, -1}};
+        for (int what = 0; what < 8; what++) {
+            for (int show : new int[] {0, 1, 2, 1, 0, 2, 0}) {
+                check.due("showing(" + show + ", " + what + ")", house.showing(show, what), due[show][what]);
+            }
+        }
     }
 
     private static void wrongOnes(Check check) {
